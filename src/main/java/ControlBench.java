@@ -287,8 +287,12 @@ public final class ControlBench {
         loop.starved = false;
         if (n + 1 < loops.length && loop.isStarvedBy(loops[n + 1])) {
             loop.giveWay(loops[n + 1].controller.setpoint);
+        } else if (loop.mode == HAND) {
+            loop.actByHand();
+        } else if (loop.mode == RELAY) {
+            loop.actAsRelay();
         } else {
-            loop.act();
+            loop.actAutomatically();
         }
     }
 
@@ -361,26 +365,34 @@ public final class ControlBench {
             return before;
         }
 
-        int pAt(long measure) {
-            return gainAt(ps, measure);
+        /** How many points have their measure at this one or below: the place of the next point above. */
+        int pointsReached(long measure) {
+            int reached = 0;
+            while (reached < points && reached < MOST_POINTS && measures[reached] <= measure) {
+                reached++;
+            }
+            return reached;
         }
 
-        int iAt(long measure) {
-            return gainAt(is, measure);
+        int pAt(int upper, long measure) {
+            return gainAt(ps, upper, measure);
         }
 
-        int dAt(long measure) {
-            return gainAt(ds, measure);
+        int iAt(int upper, long measure) {
+            return gainAt(is, upper, measure);
         }
 
-        private int gainAt(int[] gains, long measure) {
-            int upper = pointsReached(measure);
-            int lower = upper - 1;
-            if (lower < 0) {
+        int dAt(int upper, long measure) {
+            return gainAt(ds, upper, measure);
+        }
+
+        private int gainAt(int[] gains, int upper, long measure) {
+            if (upper <= 0) {
                 return gains[0];
             }
+            int lower = upper - 1;
             if (upper >= points || upper >= MOST_POINTS) {
-                return gains[lower];
+                return gains[Math.min(lower, MOST_POINTS - 1)];
             }
             long width = (long) measures[upper] - measures[lower];
             long rise = (long) gains[upper] - gains[lower];
@@ -388,14 +400,6 @@ public final class ControlBench {
                 return gains[upper];
             }
             return gains[lower] + (int) Math.floorDiv(rise * (measure - measures[lower]), width);
-        }
-
-        private int pointsReached(long measure) {
-            int reached = 0;
-            while (reached < points && reached < MOST_POINTS && measures[reached] <= measure) {
-                reached++;
-            }
-            return reached;
         }
     }
 
@@ -631,32 +635,24 @@ public final class ControlBench {
             controller.settle(output);
         }
 
-        void act() {
-            if (mode == HAND) {
-                actByHand();
-            } else if (mode == RELAY) {
-                actAsRelay();
-            } else {
-                actAutomatically();
-            }
-        }
-
-        private void actByHand() {
+        void actByHand() {
             if (follows) {
                 controller.setpoint = plant.measure;
             }
             output = controller.withinLimits(handValue);
         }
 
-        private void actAutomatically() {
+        void actAutomatically() {
             if (schedule.hasPoints()) {
                 long measure = plant.measure;
-                controller.changeGains(schedule.pAt(measure), schedule.iAt(measure), schedule.dAt(measure));
+                int upper = schedule.pointsReached(measure);
+                controller.changeGains(schedule.pAt(upper, measure), schedule.iAt(upper, measure),
+                        schedule.dAt(upper, measure));
             }
             output = controller.automaticSample();
         }
 
-        private void actAsRelay() {
+        void actAsRelay() {
             relay.sample(controller.error(), plant.measure);
             output = controller.withinLimits(relay.wanted());
             if (relay.progress != Relay.GOES_ON) {

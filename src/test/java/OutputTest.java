@@ -10,6 +10,7 @@ final class OutputTest {
         guardClampingAbove();
         guardClampingBelow();
         guardClampingLeavesWhatUnwinds();
+        guardClampingByTheLeastError();
         guardBackCalculation();
         guardAnswersTheOneBefore();
         wantedRoundsDown();
@@ -199,6 +200,19 @@ final class OutputTest {
         b.due(7, "run", 1);
         b.due(-10000, "output", 0);
         b.due(-70000000, "integral", 0);
+    }
+
+    private static void guardClampingByTheLeastError() {
+        Bench b = still("promise 7, guard 1 and errors of 1");
+        b.done("setLimits", 0, 0, 0);
+        b.due(0, "setGuard", 0, 1, 0);
+        b.due(0, "setSetpoint", 0, 1);
+        b.due(1, "run", 1);
+        b.due(0, "integral", 0);
+        b.due(1, "setSetpoint", 0, -1);
+        b.due(2, "run", 1);
+        b.due(0, "integral", 0);
+        b.due(2, "held", 0);
     }
 
     private static void guardBackCalculation() {

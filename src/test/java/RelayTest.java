@@ -310,7 +310,9 @@ final class RelayTest {
         rise(b, 3);
         b.due(1, "experiment", 0);
         b.due(406, "run", 194);
-        b.due(606, "run", 200);
+        b.due(605, "run", 199);
+        b.due(1, "experiment", 0);
+        b.due(606, "run", 1);
         b.due(3, "experiment", 0);
     }
 
