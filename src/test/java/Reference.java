@@ -128,7 +128,8 @@ final class Reference {
     }
 
     private String setPlant(State x, int[] a) {
-        if (beyond(a[1], -2000, 2000) || beyond(a[2], -1000, 1000) || beyond(a[3], -2000, 2000) || beyond(a[4], 0, 10)) {
+        if (beyond(a[1], -2000, 2000) || beyond(a[2], -1000, 1000) || beyond(a[3], -2000, 2000)
+            || beyond(a[4], 0, 10)) {
             return Bench.ARGUMENT;
         }
         x.coefficients = new int[] {a[1], a[2], a[3]};

@@ -31,11 +31,12 @@ final class ReferenceTest {
         seed = run;
         Bench bench = new Bench("reference, run " + run);
         Reference reference = new Reference();
-        boolean wide = run % 4 == 0;
+        int width = run % 3;
         for (int n = 0; n < CALLS; n++) {
             int kind = below(10);
-            String call = kind < 3 ? "run" : kind < 7 ? CHANGES[below(CHANGES.length)] : SIGNALS[below(SIGNALS.length)];
-            int[] a = below(20) == 0 ? wrong(call) : right(call, wide);
+            String call = kind < 3 ? "run"
+                : kind < 7 ? CHANGES[below(CHANGES.length)] : SIGNALS[below(SIGNALS.length)];
+            int[] a = below(20) == 0 ? wrong(call) : width == 1 ? narrow(call) : right(call, width == 0);
             bench.answerDue(reference.ask(call, a), call, a);
         }
         allSignals(bench, reference);
@@ -78,18 +79,40 @@ final class ReferenceTest {
                     : new int[] {loop, from(200, 2500), from(0, 200), from(-500, 1500)};
             case "addPoint":
                 return wide ? new int[] {loop, from(-1000000, 1000000), from(-20000, 20000), from(-5000, 5000),
-                    from(-50000, 50000)} : new int[] {loop, from(-5000, 40000), from(200, 2500), from(0, 200), from(0, 900)};
+                    from(-50000, 50000)}
+                    : new int[] {loop, from(-5000, 40000), from(200, 2500), from(0, 200), from(0, 900)};
             case "setLimits":
-                return wide ? limits(loop, from(-1000000, 1000000)) : new int[] {loop, from(-20000, 2000), from(2000, 60000)};
+                return wide ? limits(loop, from(-1000000, 1000000))
+                    : new int[] {loop, from(-20000, 2000), from(2000, 60000)};
             case "setGuard": return new int[] {loop, from(0, 2), from(0, 1000)};
             case "setSetpoint": return new int[] {loop, wide ? from(-1000000, 1000000) : from(0, 30000)};
             case "setHand": return new int[] {loop, wide ? from(-1000000, 1000000) : from(-5000, 30000)};
             case "setTies": return new int[] {loop, below(2), loop == 0 ? 0 : below(2)};
             case "setMode": return new int[] {loop, from(0, 2)};
-            case "startRelay": return new int[] {loop, wide ? from(1, 100000) : from(1, 5000), from(0, wide ? 100000 : 50)};
+            case "startRelay":
+                return new int[] {loop, wide ? from(1, 100000) : from(1, 5000), from(0, wide ? 100000 : 50)};
             case "gain": return new int[] {loop, from(0, 2)};
             case "proposed": return new int[] {loop, from(0, 1), from(0, 2)};
             default: return new int[] {loop};
+        }
+    }
+
+    /** Arguments so close together that signals often stand just at a limit, a band, a point or an error of 0. */
+    private static int[] narrow(String call) {
+        int loop = below(3);
+        switch (call) {
+            case "setPlant":
+                return new int[] {loop, 1000 * from(-1, 1), 1000 * from(-1, 1), 500 * from(-2, 2), from(0, 2)};
+            case "setLoad": return new int[] {loop, from(-2, 2)};
+            case "setGains": return new int[] {loop, 500 * from(-2, 3), 500 * from(-1, 1), 500 * from(-1, 1)};
+            case "addPoint":
+                return new int[] {loop, from(-4, 4), 500 * from(-2, 3), 500 * from(-1, 1), 500 * from(-1, 1)};
+            case "setLimits": return new int[] {loop, from(-5, 0), from(0, 5)};
+            case "setGuard": return new int[] {loop, from(0, 2), 500 * from(0, 2)};
+            case "setSetpoint": return new int[] {loop, from(-4, 4)};
+            case "setHand": return new int[] {loop, from(-6, 6)};
+            case "startRelay": return new int[] {loop, from(1, 5), from(0, 3)};
+            default: return right(call, false);
         }
     }
 

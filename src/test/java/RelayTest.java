@@ -1,8 +1,5 @@
 /** Promises 22 to 27: relay experiments, and what they tell. */
 final class RelayTest {
-    private static final int UP = 900000;
-    private static final int DOWN = -900000;
-
     public static void main(String[] args) {
         wholeExperiment();
         bandBelow();
@@ -36,31 +33,6 @@ final class RelayTest {
         b.done("setLimits", 0, -1000000, 1000000);
         b.due(0, "setMode", 0, 1);
         return b;
-    }
-
-    /** A loop whose next measure is its load, in an experiment that only the setpoint drives. */
-    private static Bench steered(String title, int height) {
-        Bench b = new Bench(title);
-        b.done("setPlant", 0, 0, 0, 0, 0);
-        b.done("setLimits", 0, -1000000, 1000000);
-        b.due(0, "setMode", 0, 1);
-        b.done("startRelay", 0, height, 0);
-        return b;
-    }
-
-    /** A sample with the relay driven up or down, behind which the measure is next. */
-    private static void steer(Bench b, int setpoint, int next) {
-        b.ask("setSetpoint", 0, setpoint);
-        b.ask("setLoad", 0, next);
-        b.ask("run", 1);
-    }
-
-    /** Rises at the second, fourth, .. sample from now; the measure stays 0. */
-    private static void rise(Bench b, int times) {
-        for (int n = 0; n < times; n++) {
-            steer(b, DOWN, 0);
-            steer(b, UP, 0);
-        }
     }
 
     private static void wholeExperiment() {
@@ -130,17 +102,17 @@ final class RelayTest {
     }
 
     private static void beginsUpAndStaysUpWithoutAnError() {
-        Bench b = steered("promise 22, up at first", 40);
+        Bench b = Steering.begun("promise 22, up at first", 40);
         b.due(3, "run", 3);
         b.due(40, "output", 0);
-        steer(b, DOWN, 0);
+        Steering.steer(b, Steering.DOWN, 0);
         b.due(-40, "output", 0);
-        steer(b, 0, 0);
+        Steering.steer(b, 0, 0);
         b.due(-40, "output", 0);
         b.due(3, "setMode", 0, 0);
         b.due(0, "setMode", 0, 1);
         b.done("startRelay", 0, 5, 0);
-        steer(b, 0, 0);
+        Steering.steer(b, 0, 0);
         b.due(-35, "output", 0);
     }
 
@@ -163,93 +135,93 @@ final class RelayTest {
     }
 
     private static void outputIsHeldWithinLimits() {
-        Bench b = steered("promise 22, limits", 1000);
+        Bench b = Steering.begun("promise 22, limits", 1000);
         b.done("setLimits", 0, -300, 200);
-        steer(b, UP, 0);
+        Steering.steer(b, Steering.UP, 0);
         b.due(200, "output", 0);
-        steer(b, DOWN, 0);
+        Steering.steer(b, Steering.DOWN, 0);
         b.due(-300, "output", 0);
         b.due(0, "held", 0);
-        steer(b, UP, 10);
-        rise(b, 3);
+        Steering.steer(b, Steering.UP, 10);
+        Steering.rise(b, 3);
         b.due(2, "experiment", 0);
         // The height is what was asked for, whatever the limits left of it.
         b.due(0, "swing", 0);
     }
 
     private static void riseIsNoNewRiseWhileItIsUp() {
-        Bench b = steered("promise 22, rises", 10);
+        Bench b = Steering.begun("promise 22, rises", 10);
         for (int n = 0; n < 10; n++) {
-            steer(b, UP, 0);
+            Steering.steer(b, Steering.UP, 0);
         }
         b.due(1, "experiment", 0);
-        steer(b, DOWN, 0);
-        steer(b, DOWN, 0);
-        steer(b, UP, 0);
-        steer(b, UP, 0);
-        rise(b, 2);
+        Steering.steer(b, Steering.DOWN, 0);
+        Steering.steer(b, Steering.DOWN, 0);
+        Steering.steer(b, Steering.UP, 0);
+        Steering.steer(b, Steering.UP, 0);
+        Steering.rise(b, 2);
         b.due(1, "experiment", 0);
-        rise(b, 1);
+        Steering.rise(b, 1);
         b.due(2, "experiment", 0);
         b.due(2, "period", 0);
     }
 
     private static void swingIsFromTheThirdToTheFourth() {
-        Bench b = steered("promise 25, the greatest at the third", 10);
-        steer(b, UP, 9000);
-        rise(b, 2);
-        steer(b, DOWN, 1000);
-        steer(b, UP, 300);
-        steer(b, DOWN, 800);
-        steer(b, DOWN, -7000);
-        steer(b, UP, 5);
+        Bench b = Steering.begun("promise 25, the greatest at the third", 10);
+        Steering.steer(b, Steering.UP, 9000);
+        Steering.rise(b, 2);
+        Steering.steer(b, Steering.DOWN, 1000);
+        Steering.steer(b, Steering.UP, 300);
+        Steering.steer(b, Steering.DOWN, 800);
+        Steering.steer(b, Steering.DOWN, -7000);
+        Steering.steer(b, Steering.UP, 5);
         b.due(2, "experiment", 0);
         b.due(700, "swing", 0);
         b.due(2, "period", 0);
-        Bench c = steered("promise 25, the least at the third", 10);
-        steer(c, DOWN, -9000);
-        steer(c, UP, 0);
-        rise(c, 1);
-        steer(c, DOWN, -1000);
-        steer(c, UP, -300);
-        steer(c, UP, -800);
-        steer(c, DOWN, 7000);
-        steer(c, UP, 5);
+        Bench c = Steering.begun("promise 25, the least at the third", 10);
+        Steering.steer(c, Steering.DOWN, -9000);
+        Steering.steer(c, Steering.UP, 0);
+        Steering.rise(c, 1);
+        Steering.steer(c, Steering.DOWN, -1000);
+        Steering.steer(c, Steering.UP, -300);
+        Steering.steer(c, Steering.UP, -800);
+        Steering.steer(c, Steering.DOWN, 7000);
+        Steering.steer(c, Steering.UP, 5);
         c.due(700, "swing", 0);
-        Bench d = steered("promise 25, greatest and least between", 10);
-        rise(d, 2);
-        steer(d, DOWN, 100);
-        steer(d, UP, 10000);
-        steer(d, UP, -10000);
-        steer(d, DOWN, 20);
-        steer(d, UP, 5);
+        Bench d = Steering.begun("promise 25, greatest and least between", 10);
+        Steering.rise(d, 2);
+        Steering.steer(d, Steering.DOWN, 100);
+        Steering.steer(d, Steering.UP, 10000);
+        Steering.steer(d, Steering.UP, -10000);
+        Steering.steer(d, Steering.DOWN, 20);
+        Steering.steer(d, Steering.UP, 5);
         d.due(20000, "swing", 0);
     }
 
     private static void periodIsRoundedDown() {
-        Bench b = steered("promise 24, rounding", 10);
-        rise(b, 2);
-        steer(b, DOWN, 0);
-        rise(b, 2);
+        Bench b = Steering.begun("promise 24, rounding", 10);
+        Steering.rise(b, 2);
+        Steering.steer(b, Steering.DOWN, 0);
+        Steering.rise(b, 2);
         b.due(2, "experiment", 0);
         // The fourth at the sample 8 from the start, the second at 3.
         b.due(2, "period", 0);
-        Bench c = steered("promise 24, a first rise that does not count", 10);
-        rise(c, 1);
+        Bench c = Steering.begun("promise 24, a first rise that does not count", 10);
+        Steering.rise(c, 1);
         for (int n = 0; n < 9; n++) {
-            steer(c, DOWN, 0);
+            Steering.steer(c, Steering.DOWN, 0);
         }
-        rise(c, 2);
+        Steering.rise(c, 2);
         for (int n = 0; n < 7; n++) {
-            steer(c, UP, 0);
+            Steering.steer(c, Steering.UP, 0);
         }
-        rise(c, 1);
+        Steering.rise(c, 1);
         c.due(5, "period", 0);
     }
 
     private static void swingOfZero() {
-        Bench b = steered("promises 25 to 27, no swing", 10);
-        rise(b, 4);
+        Bench b = Steering.begun("promises 25 to 27, no swing", 10);
+        Steering.rise(b, 4);
         b.due(2, "experiment", 0);
         b.due(2, "period", 0);
         b.due(0, "swing", 0);
@@ -261,14 +233,14 @@ final class RelayTest {
     }
 
     private static void doneAtTheLastSample() {
-        Bench b = steered("promise 23, done at the 400th sample", 10);
-        rise(b, 3);
-        steer(b, DOWN, 0);
+        Bench b = Steering.begun("promise 23, done at the 400th sample", 10);
+        Steering.rise(b, 3);
+        Steering.steer(b, Steering.DOWN, 0);
         b.due(200, "run", 193);
         b.due(399, "run", 199);
         b.due(1, "experiment", 0);
         b.due(3, "mode", 0);
-        steer(b, UP, 0);
+        Steering.steer(b, Steering.UP, 0);
         b.due(2, "experiment", 0);
         b.due(10, "output", 0);
         b.due(1, "mode", 0);
@@ -277,13 +249,13 @@ final class RelayTest {
     }
 
     private static void failedAtTheLastSample() {
-        Bench b = steered("promise 23, failed at the 400th sample", 10);
-        rise(b, 3);
-        steer(b, DOWN, 0);
+        Bench b = Steering.begun("promise 23, failed at the 400th sample", 10);
+        Steering.rise(b, 3);
+        Steering.steer(b, Steering.DOWN, 0);
         b.due(200, "run", 193);
         b.due(399, "run", 199);
         b.due(1, "experiment", 0);
-        steer(b, DOWN, 250);
+        Steering.steer(b, Steering.DOWN, 250);
         b.due(3, "experiment", 0);
         b.due(-10, "output", 0);
         b.due(1, "mode", 0);
@@ -294,20 +266,20 @@ final class RelayTest {
         b.refused(Bench.STATE, "swing", 0);
         b.refused(Bench.STATE, "ultimateGain", 0);
         b.refused(Bench.STATE, "proposed", 0, 0, 0);
-        steer(b, UP, 0);
+        Steering.steer(b, Steering.UP, 0);
         b.due(3, "experiment", 0);
         b.due(1, "setMode", 0, 0);
         b.due(3, "experiment", 0);
     }
 
     private static void samplesOfAnEarlierExperimentDoNotCount() {
-        Bench b = steered("promise 22, counted from its own start", 10);
+        Bench b = Steering.begun("promise 22, counted from its own start", 10);
         b.due(200, "run", 200);
-        rise(b, 3);
+        Steering.rise(b, 3);
         b.due(3, "setMode", 0, 0);
         b.due(0, "setMode", 0, 1);
         b.done("startRelay", 0, 10, 0);
-        rise(b, 3);
+        Steering.rise(b, 3);
         b.due(1, "experiment", 0);
         b.due(406, "run", 194);
         b.due(605, "run", 199);
@@ -317,8 +289,8 @@ final class RelayTest {
     }
 
     private static void givenUp() {
-        Bench b = steered("promise 23, given up", 10);
-        steer(b, DOWN, 0);
+        Bench b = Steering.begun("promise 23, given up", 10);
+        Steering.steer(b, Steering.DOWN, 0);
         b.due(3, "setMode", 0, 0);
         b.due(0, "experiment", 0);
         b.refused(Bench.STATE, "period", 0);
@@ -331,14 +303,14 @@ final class RelayTest {
     }
 
     private static void newExperimentForgets() {
-        Bench b = steered("promise 22, the one before is forgotten", 10);
-        rise(b, 4);
+        Bench b = Steering.begun("promise 22, the one before is forgotten", 10);
+        Steering.rise(b, 4);
         b.due(2, "experiment", 0);
         b.done("startRelay", 0, 10, 0);
         b.due(1, "experiment", 0);
         b.refused(Bench.STATE, "period", 0);
         b.refused(Bench.STATE, "swing", 0);
-        rise(b, 3);
+        Steering.rise(b, 3);
         b.due(1, "experiment", 0);
         b.due(3, "setMode", 0, 0);
         b.due(0, "experiment", 0);
@@ -346,7 +318,7 @@ final class RelayTest {
     }
 
     private static void setpointsAndLimitsMayChange() {
-        Bench b = steered("promise 22, what may change meanwhile", 10);
+        Bench b = Steering.begun("promise 22, what may change meanwhile", 10);
         b.due(0, "setSetpoint", 0, 5);
         b.done("setLimits", 0, 0, 4);
         b.due(0, "setGuard", 0, 2, 10);
@@ -364,7 +336,7 @@ final class RelayTest {
     }
 
     private static void gainsStay() {
-        Bench b = steered("promise 22, no automatic samples", 10);
+        Bench b = Steering.begun("promise 22, no automatic samples", 10);
         b.due(1, "addPoint", 0, 0, 5, 5, 5);
         b.due(0, "setSetpoint", 0, 100);
         b.due(10, "run", 10);
@@ -382,36 +354,22 @@ final class RelayTest {
         b.due(0, "setMode", 0, 1);
         b.done("startRelay", 0, 100, 0);
         b.done("setLimits", 0, 0, 50);
-        rise(b, 4);
+        Steering.rise(b, 4);
         b.due(2, "experiment", 0);
         b.due(50, "output", 0);
         // 5000, less 900000 by the error.
         b.due(5000000 - 900000000, "integral", 0);
     }
 
-    /** An experiment with the height, the period 2 and the swing. */
-    private static Bench told(String title, int height, int swing) {
-        Bench b = steered(title, height);
-        rise(b, 3);
-        steer(b, DOWN, swing);
-        // The measure of the fourth rise is not in the swing, so it comes one sample later.
-        steer(b, DOWN, 0);
-        steer(b, UP, 0);
-        b.due(2, "experiment", 0);
-        b.due(2, "period", 0);
-        b.due(swing, "swing", 0);
-        return b;
-    }
-
     private static void proposalsAreHeld() {
-        Bench b = told("promise 27, held at the most", 100000, 1);
+        Bench b = Steering.told("promise 27, held at the most", 100000, 1);
         b.due(254647887, "ultimateGain", 0);
         for (int rule = 0; rule < 2; rule++) {
             b.due(20000, "proposed", 0, rule, 0);
             b.due(5000, "proposed", 0, rule, 1);
             b.due(50000, "proposed", 0, rule, 2);
         }
-        Bench c = told("promise 27, nothing to propose", 1, 10000);
+        Bench c = Steering.told("promise 27, nothing to propose", 1, 10000);
         c.due(0, "ultimateGain", 0);
         c.due(0, "proposed", 0, 0, 0);
         c.due(0, "proposed", 0, 1, 1);
@@ -419,7 +377,7 @@ final class RelayTest {
     }
 
     private static void proposalsOfEachRule() {
-        Bench b = told("promise 27, both rules", 100, 200);
+        Bench b = Steering.told("promise 27, both rules", 100, 200);
         b.due(1273, "ultimateGain", 0);
         b.due(763, "proposed", 0, 0, 0);
         b.due(763, "proposed", 0, 0, 1);
@@ -427,7 +385,7 @@ final class RelayTest {
         b.due(578, "proposed", 0, 1, 0);
         b.due(131, "proposed", 0, 1, 1);
         b.due(183, "proposed", 0, 1, 2);
-        Bench c = told("promise 26, a greater swing", 7777, 9999);
+        Bench c = Steering.told("promise 26, a greater swing", 7777, 9999);
         // 7030408000 through 3549645.
         c.due(1980, "ultimateGain", 0);
         c.due(1188, "proposed", 0, 0, 0);
@@ -436,7 +394,7 @@ final class RelayTest {
         c.due(900, "proposed", 0, 1, 0);
         c.due(204, "proposed", 0, 1, 1);
         c.due(285, "proposed", 0, 1, 2);
-        Bench d = told("promise 27, next to the most", 1000, 76);
+        Bench d = Steering.told("promise 27, next to the most", 1000, 76);
         // 904000000 through 26980.
         d.due(33506, "ultimateGain", 0);
         d.due(20000, "proposed", 0, 0, 0);
@@ -448,14 +406,14 @@ final class RelayTest {
     }
 
     private static void masterInRelay() {
-        Bench b = steered("promise 22, a master in relay", 30);
+        Bench b = Steering.begun("promise 22, a master in relay", 30);
         b.done("setTies", 1, 0, 1);
         b.due(0, "setMode", 1, 2);
-        steer(b, UP, 0);
+        Steering.steer(b, Steering.UP, 0);
         b.due(30, "setpoint", 1);
-        steer(b, DOWN, 0);
+        Steering.steer(b, Steering.DOWN, 0);
         b.due(-30, "setpoint", 1);
-        rise(b, 4);
+        Steering.rise(b, 4);
         b.due(2, "experiment", 0);
         b.due(30, "setpoint", 1);
     }
