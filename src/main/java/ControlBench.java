@@ -403,7 +403,7 @@ public final class ControlBench {
         }
     }
 
-    /** The PID arithmetic of a loop: its gains, its integral and its guard against windup. */
+    /** The PID arithmetic on a plant: the gains, the integral and the guard against windup. */
     private static final class Controller {
         static final int GUARD_NOTHING = 0;
         static final int GUARD_CLAMPING = 1;
@@ -420,15 +420,11 @@ public final class ControlBench {
         long setpoint;
         long integral;
         long sumByIncrements;
-        private final Plant plant;
+        final Plant plant = new Plant();
         private long latestError;
         private long latestRate;
         // Whether the loop's latest sample was automatic, and it has not been settled since.
         private boolean goesOn;
-
-        Controller(Plant plant) {
-            this.plant = plant;
-        }
 
         long error() {
             return setpoint - plant.measure;
@@ -594,8 +590,8 @@ public final class ControlBench {
 
     /** A plant with its controller, and what the loop does at its turn in a sample. */
     private static final class Loop {
-        final Plant plant = new Plant();
-        final Controller controller = new Controller(plant);
+        final Controller controller = new Controller();
+        final Plant plant = controller.plant;
         final Schedule schedule = new Schedule();
         final Relay relay = new Relay();
         int mode = HAND;

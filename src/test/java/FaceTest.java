@@ -84,10 +84,20 @@ final class FaceTest {
             isPrivate(f);
         }
         for (Class<?> inside : ControlBench.class.getDeclaredClasses()) {
+            constructorsAreHandedNothing(inside);
             for (Field f : inside.getDeclaredFields()) {
                 if (Modifier.isStatic(f.getModifiers()) && !Modifier.isFinal(f.getModifiers())) {
                     Bench.expect(f.toString(), "static", "no static state");
                 }
+            }
+        }
+    }
+
+    /** So that no constructor can hand out a part of the object that it makes (rule 12). */
+    private static void constructorsAreHandedNothing(Class<?> inside) {
+        for (Constructor<?> c : inside.getDeclaredConstructors()) {
+            if (c.getParameterCount() != 0) {
+                Bench.expect(c.toString(), "is handed something", "is handed nothing");
             }
         }
     }
